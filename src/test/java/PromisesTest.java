@@ -347,6 +347,7 @@ public final class PromisesTest {
         Due.is("LAGS by a TEXT, SPEED 5", x.lag(0, Due.cell(2, 5)), 40);
         x.beats(32);
         Due.is("LAGS by BEAT of THE PIECE", x.lag(0, Due.cell(2, 5)), 40);
+        lagsOfAll();
         x.become(0, 49);
         x.beats(7);
         Due.is("what LAGS gives is held, then more", x.lag(0, 2), 99 + 9);
@@ -356,6 +357,21 @@ public final class PromisesTest {
         Due.is("lag(0, -1)", x.lag(0, -1), BEYOND);
         Due.is("lag(1, 0)", x.lag(1, 0), BEYOND);
         Due.is("lag(-1, 0)", x.lag(-1, 0), BEYOND);
+    }
+
+    /** What LAGS gives by all FARS and SPEEDS in some BEATS of THE PIECE, and in the last one. */
+    private static void lagsOfAll() {
+        LagoonOpera x = new LagoonOpera();
+        x.boat(10, 0);
+        Due.text(x, 0, "(d*11+s*13+t*17)%97");
+        int[] beats = {0, 1, 2, 3, 31};
+        for (int t : beats) {
+            while (x.count(0) < t) x.beats(t - x.count(0));
+            for (int v = 1; v <= 9; v++) {
+                x.speed(v);
+                for (int far = 0; far < 8; far++) Due.is("lag by all", x.lag(0, 9 * far), (far * 11 + v * 13 + t * 17) % 97);
+            }
+        }
     }
 
     /** When it is TOGETHER. */
@@ -494,7 +510,7 @@ public final class PromisesTest {
             {"!(!(!(d)))", 5}, {"!(!(!d))", none}, {"!!!!(d)", none}, {"!!!!!(d)", 5}, {"!d+!d+!d+!d+!d+!d", none},
             {"(d)+(d)+(d)+(d)+(d)+(d)", none}, {"!d*(!(!(!(!d))))", 8}, {"()", 1}, {"(d", 2}, {"d)", 1}, {"(d))", 3},
             {"d d", 1}, {" d", 0}, {"d ", 1}, {"+d", 0}, {"-1", 0}, {"d-1", none}, {"d++d", 2}, {"d*/d", 2}, {"d!", 1},
-            {"d!d", 1}, {"d|", 2}, {"|d", 0}, {"d&&d", 2}, {"d=", 2}, {"d==d", 2}, {"d<>d", 2}, {"!", 1}, {"!)", 1}, {"(", 1},
+            {"d!d", 1}, {"d|", 2}, {"d&", 2}, {"d*", 2}, {"d+", 2}, {"d<", 2}, {"!!!!!", 5}, {"(((((", 5}, {"|d", 0}, {"d&&d", 2}, {"d=", 2}, {"d==d", 2}, {"d<>d", 2}, {"!", 1}, {"!)", 1}, {"(", 1},
             {"(d+1)(d)", 5}, {"d(", 1}, {"1+2*3%4/5-6", none}, {"(d+", 3}, {"(d<d<", 4}, {"(12345)", 5}, {"!12345", 5},
         };
         for (Object[] pair : faults) {
@@ -751,10 +767,25 @@ public final class PromisesTest {
         Due.is("score by 128", x.score(Due.cell(3, 4), 128), 124);
         x.beats(3);
         Due.is("score from now on", x.score(Due.cell(3, 4), 7), 6);
+        scoreByTheBeat();
         Due.is("score(-1, 1)", x.score(-1, 1), BEYOND);
         Due.is("score(64, 1)", x.score(64, 1), BEYOND);
         Due.is("score(0, -1)", x.score(0, -1), BEYOND);
         Due.is("score(0, 129)", x.score(0, 129), BEYOND);
+    }
+
+    /** LAGS by a TEXT with t: TOGETHER only in BEATS that leave 3 by 8. */
+    private static void scoreByTheBeat() {
+        LagoonOpera x = new LagoonOpera();
+        Due.boat(x, 10, 0, ALL);
+        Due.boat(x, 10, 7, ALL);
+        Due.text(x, 0, "d*!(t%8=3)");
+        Due.is("in BEATS 3, 11, 19, 27", x.score(0, 32), 4);
+        Due.is("ahead of BEAT 3", x.score(0, 3), 0);
+        Due.is("with BEAT 3", x.score(0, 4), 1);
+        x.beats(4);
+        Due.is("from BEAT 4 on", x.score(0, 7), 0);
+        Due.is("from BEAT 4 on", x.score(0, 8), 1);
     }
 
     private static void promise21() {
@@ -819,12 +850,26 @@ public final class PromisesTest {
         Due.is("score stays", x.score(Due.cell(3, 4), 128), 124);
         Due.is("mooring by 0", x.mooring(1, 5, 0), 0);
         Due.is("mooring of a BARGE for its CELL", x.mooring(0, Due.cell(3, 3), 1), Due.cell(3, 3));
+        mooringAtTheEnds();
         Due.is("mooring(2, 0, 1)", x.mooring(2, 0, 1), BEYOND);
         Due.is("mooring(-1, 0, 1)", x.mooring(-1, 0, 1), BEYOND);
         Due.is("mooring(0, 64, 1)", x.mooring(0, 64, 1), BEYOND);
         Due.is("mooring(0, -1, 1)", x.mooring(0, -1, 1), BEYOND);
         Due.is("mooring(0, 0, 129)", x.mooring(0, 0, 129), BEYOND);
         Due.is("mooring(0, 0, -1)", x.mooring(0, 0, -1), BEYOND);
+    }
+
+    private static void mooringAtTheEnds() {
+        int[] ends = {63, 0};
+        LagoonOpera x = new LagoonOpera();
+        x.speed(1);
+        Due.boat(x, 10, 0, ALL);
+        Due.boat(x, 10, 0, ALL);
+        Due.is("CELL 0 has most", x.place(128), 0);
+        for (int end : ends) {
+            x.change(0, 2, end);
+            Due.is("mooring in CELL " + end, x.mooring(1, end, 1), end);
+        }
     }
 
     private static void promise24() {
@@ -837,6 +882,9 @@ public final class PromisesTest {
         Due.is("by 4 in 4 BEATS", x.sooner(1, 0, 4), 4);
         Due.is("by 0", x.sooner(1, 0, 0), 0);
         Due.is("PART stays", x.ofBoat(1, 3), Due.bit(7) | Due.bit(2));
+        x.change(1, 3, Due.bit(2) | Due.bit(29));
+        Due.is("by 31", x.sooner(1, 0, 32), 31);
+        x.change(1, 3, Due.bit(7) | Due.bit(2));
         Due.is("sooner(2, 0, 1)", x.sooner(2, 0, 1), BEYOND);
         Due.is("sooner(-1, 0, 1)", x.sooner(-1, 0, 1), BEYOND);
         Due.is("sooner(0, 64, 1)", x.sooner(0, 64, 1), BEYOND);
@@ -909,6 +957,17 @@ public final class PromisesTest {
         x.beats(1);
         Due.is("of this BEAT", x.fromWhere(corners, 505050), 0);
         Due.is("of this BEAT", x.fromWhere(corners, 515151), 64);
+        Due.text(x, 0, "d*12");
+        Due.is("LAG 12 from the one", x.fromWhere(three(1, 0, 0), 120000), 1);
+        Due.is("LAG 12 from the second", x.fromWhere(three(0, 1, 0), 1200), 1);
+        Due.is("LAG 12 from the third", x.fromWhere(three(0, 0, 1), 12), 1);
+        Due.is("the one is 63", x.fromWhere(three(63, 0, 0), 840000), 1);
+        Due.is("the others are 63", x.fromWhere(three(0, 63, 63), 840000), 1);
+        Due.is("all are 0", x.fromWhere(0, 0), 1);
+        Due.is("all are 63", x.fromWhere(262143, 0), 1);
+        Due.text(x, 0, "99");
+        Due.is("LAGS 99", x.fromWhere(corners, 999999), 64);
+        Due.text(x, 0, "1");
         Due.is("fromWhere(-1, 0)", x.fromWhere(-1, 0), BEYOND);
         Due.is("fromWhere(262143, 0)", x.fromWhere(262143, 0), 0);
         Due.is("fromWhere(262144, 0)", x.fromWhere(262144, 0), BEYOND);
@@ -1252,12 +1311,15 @@ public final class PromisesTest {
     }
 
     private static void spoil(LagoonOpera x) {
+        x.text(1);
         x.tide(0, 3);
         x.tide(3, 1);
         x.speed(8);
+        x.lag(0, 7);
         x.change(0, 3, 0);
         x.become(1, 69);
-        x.boat(0, 0);
+        Due.boat(x, 0, 0, ALL);
+        x.fromHere(20);
         x.listener(3);
         x.row(0, 5);
         Due.text(x, 0, "9");
@@ -1269,6 +1331,7 @@ public final class PromisesTest {
         x.check(0);
         x.tell(6);
         x.tell(7);
+        x.lag(0, 7);
     }
 
     private static void promise38() {
@@ -1286,8 +1349,27 @@ public final class PromisesTest {
             Due.is("restore(): BEAT", x.restore(), 2);
             sameState(x, y);
         }
+        Due.is("the bytes of THE TAPE", x.text(0), y.text(0));
+        Due.is("the TEXT of them", x.law(0, 1, 88, 0), 88);
+        x.restore();
+        Due.is("the number that waits", x.check(0), 1);
+        x.restore();
+        x.check(0);
+        x.tell(x.thenListener(1, 0, 1));
+        x.image();
+        x.check(0);
+        x.tell(77);
+        x.restore();
+        Due.is("the number that waits", x.check(0), 0);
         Due.is("SHEETS stay as they are", x.move(0, 0, 0, 1, 1), 1);
         Due.is("told stays as it is", x.told(2), 1);
+        x.image();
+        Due.is("LAG by the TEXT", x.lag(0, 63), 12);
+        x.text(1);
+        Due.text(x, 0, "9");
+        Due.is("LAG by another TEXT", x.lag(0, 63), 9);
+        x.restore();
+        Due.is("LAG by the TEXT again", x.lag(0, 63), 12);
     }
 
     private static void sameState(LagoonOpera x, LagoonOpera y) {
@@ -1338,6 +1420,10 @@ public final class PromisesTest {
         x.tell(1);
         Due.is("check(-1)", x.check(-1), BEYOND);
         Due.is("none wait then, too", x.count(8), 0);
+        x.change(0, 3, ALL);
+        for (int i = 1; i <= 20; i++) x.tell(i);
+        Due.is("no FOG AHEAD", x.check(0), 0);
+        x.change(0, 3, Due.bit(0) | Due.bit(2));
         for (int i = 0; i < 20; i++) x.tell(i < 2 ? 1 : 2);
         Due.is("20 are so", x.check(0), 0);
         for (int i = 0; i < 20; i++) x.tell(i == 19 ? 3 : i < 2 ? 1 : 2);
