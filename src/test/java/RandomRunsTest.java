@@ -1,9 +1,10 @@
 import java.util.Random;
 
-/** Runs of calls by draws with a told seed, each answer held against that of PlainOpera. */
+/** Runs of 512 calls by draws with a told seed, each answer held against that of PlainOpera. */
 public final class RandomRunsTest {
     private static final int RUNS = 500;
-    private static final int CALLS = 160;
+    // an object is used for so many calls at most
+    private static final int CALLS = 512;
     private static final int[] EXTREMES = {
         Integer.MIN_VALUE, Integer.MIN_VALUE + 1, Due.BEYOND, -1, -2, 128, 129, 9999, 65536, Integer.MAX_VALUE,
     };
@@ -23,6 +24,7 @@ public final class RandomRunsTest {
     private final LagoonOpera x = new LagoonOpera();
     private final PlainOpera plain = new PlainOpera();
     private final int run;
+    private int calls = 0;
     private final StringBuilder log = new StringBuilder();
     private static boolean[] answered = new boolean[FACE.length];
     private static int errors = 0;
@@ -39,6 +41,7 @@ public final class RandomRunsTest {
             if (!new RandomRunsTest(run).asDue()) wrong++;
         }
         for (int act = 0; act < FACE.length; act++) {
+            if (!FACE[act].startsWith(Calls.name(act) + ":")) wrong++;
             if (!answered[act]) System.out.println(FACE[act] + " never answered without an ERROR");
             if (!answered[act]) wrong++;
         }
@@ -47,20 +50,18 @@ public final class RandomRunsTest {
     }
 
     private boolean asDue() {
-        int calls = 0;
         if (draws.nextInt(8) != 0) {
             int boats = 1 + draws.nextInt(9);
             for (int i = 0; i < boats; i++) {
                 if (!same(2, new long[] {drawn('k'), drawn('c')})) return false;
                 if (!same(4, new long[] {i, 3, drawn('P')})) return false;
-                calls += 2;
             }
             for (int i = 0; i < 3; i++) if (!same(8, new long[] {drawn('c')})) return false;
             for (int i = 0; i < 4; i++) if (!same(0, new long[] {i, drawn('v')})) return false;
         }
         boolean late = draws.nextInt(40) == 0;
         for (int i = 0; late && i < 78; i++) if (!same(14, new long[] {128})) return false;
-        for (; calls < CALLS; calls++) {
+        while (calls < CALLS) {
             int kind = draws.nextInt(12);
             boolean so = kind == 0 ? feedText() : kind == 1 ? tellInTime() : kind == 2 ? layTruth() : oneCall(draws.nextInt(41));
             if (!so) return false;
@@ -181,68 +182,17 @@ public final class RandomRunsTest {
         return same(34, new long[] {sheet, boat}) && (small(3) != 0 || same(33, new long[] {sheet, boat}));
     }
 
+    /** Whether both answer the same, or no call is left. */
     private boolean same(int act, long[] a) {
+        if (calls == CALLS) return true;
+        calls++;
         long due = plain.call(act, a);
-        long got = ask(act, a);
+        long got = Calls.ask(x, act, a);
         log.append(FACE[act], 0, FACE[act].indexOf(':')).append(java.util.Arrays.toString(a)).append(" = ").append(got).append('\n');
         if (due < -1000000000 && due >= -1000000005) errors++;
         else answered[act] = true;
         if (due == got) return true;
         System.out.println("run " + run + ", due is " + due + " behind:\n" + log);
         return false;
-    }
-
-    private long ask(int act, long[] a) {
-        int[] i = new int[7];
-        for (int j = 0; j < a.length; j++) i[j] = (int) a[j];
-        switch (act) {
-            case 0: return x.tide(i[0], i[1]);
-            case 1: return x.speed(i[0]);
-            case 2: return x.boat(i[0], i[1]);
-            case 3: return x.ofBoat(i[0], i[1]);
-            case 4: return x.change(i[0], i[1], i[2]);
-            case 5: return x.become(i[0], i[1]);
-            case 6: return x.as(i[0], i[1]);
-            case 7: return x.lag(i[0], i[1]);
-            case 8: return x.listener(i[0]);
-            case 9: return x.ofListener(i[0], i[1]);
-            case 10: return x.row(i[0], i[1]);
-            case 11: return x.feed(a[0], i[1]);
-            case 12: return x.text(i[0]);
-            case 13: return x.law(i[0], i[1], i[2], i[3]);
-            case 14: return x.beats(i[0]);
-            case 15: return x.loose(i[0]);
-            case 16: return x.then(i[0], i[1]);
-            case 17: return x.thenListener(i[0], i[1], i[2]);
-            case 18: return x.score(i[0], i[1]);
-            case 19: return x.place(i[0]);
-            case 20: return x.fromHere(i[0]);
-            default: return askOn(act, i);
-        }
-    }
-
-    private long askOn(int act, int[] i) {
-        switch (act) {
-            case 21: return x.mooring(i[0], i[1], i[2]);
-            case 22: return x.sooner(i[0], i[1], i[2]);
-            case 23: return x.fitSpeed(i[0], i[1]);
-            case 24: return x.fromWhere(i[0], i[1]);
-            case 25: return x.whereFrom(i[0], i[1], i[2]);
-            case 26: return x.strokes(i[0], i[1]);
-            case 27: return x.seed(i[0]);
-            case 28: return x.voice(i[0], i[1], i[2]);
-            case 29: return x.trace(i[0]);
-            case 30: return x.sheet(i[0], i[1], i[2]);
-            case 31: return x.put(i[0], i[1], i[2]);
-            case 32: return x.move(i[0], i[1], i[2], i[3], i[4]);
-            case 33: return x.part(i[0], i[1]);
-            case 34: return x.judge(i[0], i[1]);
-            case 35: return x.image();
-            case 36: return x.restore();
-            case 37: return x.tell(i[0]);
-            case 38: return x.check(i[0]);
-            case 39: return x.count(i[0]);
-            default: return x.told(i[0]);
-        }
     }
 }
