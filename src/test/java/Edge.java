@@ -66,8 +66,7 @@ final class Edge {
     }
 
     static void goTo(LagoonOpera x, int beat) {
-        while (x.count(0) + 128 <= beat) x.beats(128);
-        if (x.count(0) < beat) x.beats(beat - x.count(0));
+        for (int left = beat - x.count(0); left > 0; left -= 128) x.beats(Math.min(128, left));
     }
 
     /** As rich(), in BEAT 9999. */

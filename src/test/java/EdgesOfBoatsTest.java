@@ -358,7 +358,7 @@ public final class EdgesOfBoatsTest {
 
     private static LagoonOpera nineBoats() {
         LagoonOpera x = Edge.rich();
-        while (x.count(1) < 9) Due.boat(x, 60 + x.count(1), x.count(1), x.count(1));
+        for (int boat = x.count(1); boat < 9; boat++) Due.boat(x, 60 + boat, boat, boat);
         return x;
     }
 
@@ -478,7 +478,7 @@ public final class EdgesOfBoatsTest {
 
     private static LagoonOpera sixListeners() {
         LagoonOpera x = Edge.rich();
-        while (x.count(2) < 6) x.listener(x.count(2));
+        for (int listener = x.count(2); listener < 6; listener++) x.listener(listener);
         return x;
     }
 

@@ -641,7 +641,7 @@ public final class EdgesOfSheetsTest {
     /** As rich(), but 20 numbers wait. */
     private static LagoonOpera twentyWait() {
         LagoonOpera x = Edge.rich();
-        while (x.count(8) < 20) x.tell(x.thenListener(x.count(8) + 1, 0, 1));
+        for (int k = x.count(8) + 1; k <= 20; k++) x.tell(x.thenListener(k, 0, 1));
         return x;
     }
 

@@ -41,12 +41,12 @@ final class Look {
 
     private void scene(LagoonOpera x, String when) {
         for (int what = 0; what <= 10; what++) saw(when + "count " + what, x.count(what));
-        for (int boat = 0; boat < x.count(1); boat++) {
+        for (int boat = 0; boat < Math.min(9, x.count(1)); boat++) {
             for (int what = 0; what <= 4; what++) saw(when + "ofBoat " + boat + ", " + what, x.ofBoat(boat, what));
             saw(when + "lag " + boat, x.lag(boat, 0));
             saw(when + "then " + boat, x.then(40, boat));
         }
-        for (int listener = 0; listener < x.count(2); listener++) {
+        for (int listener = 0; listener < Math.min(6, x.count(2)); listener++) {
             for (int what = 0; what <= 3; what++) {
                 saw(when + "ofListener " + listener + ", " + what, x.ofListener(listener, what));
             }

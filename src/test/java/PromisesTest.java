@@ -366,7 +366,7 @@ public final class PromisesTest {
         Due.text(x, 0, "(d*11+s*13+t*17)%97");
         int[] beats = {0, 1, 2, 3, 31};
         for (int t : beats) {
-            while (x.count(0) < t) x.beats(t - x.count(0));
+            Edge.goTo(x, t);
             for (int v = 1; v <= 9; v++) {
                 x.speed(v);
                 for (int far = 0; far < 8; far++) Due.is("lag by all", x.lag(0, 9 * far), (far * 11 + v * 13 + t * 17) % 97);
